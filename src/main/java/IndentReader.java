@@ -454,7 +454,7 @@ public final class IndentReader {
     }
 
     private boolean findMend() {
-        // A shift changes columns alone: bytes stay faulty and marks of pairs mismatched, whatever they are.
+        // Blanks at the beginning of a line change columns alone: other bytes and marks of pairs stay at fault.
         if (now.faultKind != WANTED && now.faultKind != IN) {
             return false;
         }
@@ -676,31 +676,25 @@ public final class IndentReader {
             size = source.size;
         }
 
+        /** Behind a line's end another one begins, but not at the end of the text. */
         int lineCount() {
-            int lines = 0;
-            for (int i = 0; i < size; i++) {
-                if (beginsLine(i)) {
-                    lines++;
-                }
-            }
-            return lines;
+            return size == 0 ? 0 : 1 + lineAt(size - 1);
         }
 
         int startOf(int line) {
+            if (line == 0 && size > 0) {
+                return 0;
+            }
             int ahead = 0;
-            for (int i = 0; i < size; i++) {
-                if (beginsLine(i)) {
-                    if (ahead == line) {
-                        return i;
-                    }
+            for (int i = 0; i < size - 1; i++) {
+                if (bytes[i] == LINE_END) {
                     ahead++;
+                    if (ahead == line) {
+                        return i + 1;
+                    }
                 }
             }
             return NONE;
-        }
-
-        private boolean beginsLine(int i) {
-            return i == 0 || at(i - 1) == LINE_END;
         }
 
         int lineAt(int place) {
