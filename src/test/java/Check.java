@@ -1,13 +1,58 @@
-/** Counts and prints answers that are not the ones that are due, and tells books, texts and pages in letters. */
+import java.lang.reflect.InvocationTargetException;
+import java.lang.reflect.Method;
+import java.util.ArrayList;
+import java.util.Arrays;
+import java.util.Comparator;
+import java.util.List;
+import java.util.function.Supplier;
+import java.util.function.ToIntFunction;
+
+/** Runs the tests of a class, counts and prints answers that are not the ones that are due. */
 final class Check {
+    private String test = "";
     private int wrong;
     private int asked;
+
+    /** Runs every test that Says something, then ends. */
+    void runAll(Class<?> tests) {
+        List<Method> all = new ArrayList<>();
+        for (Method method : tests.getDeclaredMethods()) {
+            if (method.isAnnotationPresent(Says.class)) {
+                all.add(method);
+            }
+        }
+        all.sort(Comparator.comparing(Method::getName));
+        for (Method method : all) {
+            int promise = method.getAnnotation(Says.class).promise();
+            test = (promise == 0 ? "Terms" : "promise " + promise) + ", " + method.getName() + ": ";
+            runOne(method);
+        }
+        test = "";
+        System.out.println(all.size() + " tests");
+        due("a class of tests has tests", all.isEmpty() ? 0 : 1, 1);
+        end();
+    }
+
+    private void runOne(Method method) {
+        int before = asked;
+        try {
+            method.setAccessible(true);
+            method.invoke(null);
+        } catch (InvocationTargetException thrown) {
+            wrong++;
+            System.out.println(test + "threw " + thrown.getCause());
+        } catch (IllegalAccessException closed) {
+            wrong++;
+            System.out.println(test + "cannot be called: " + closed);
+        }
+        due("a test asks", asked > before ? 1 : 0, 1);
+    }
 
     void due(String what, long got, long want) {
         asked++;
         if (got != want) {
             wrong++;
-            System.out.println(what + " answered " + got + ", due is " + want);
+            System.out.println(test + what + " answered " + got + ", due is " + want);
         }
     }
 
@@ -15,7 +60,7 @@ final class Check {
         asked++;
         if (!got.equals(want)) {
             wrong++;
-            System.out.println(what + " answered [" + got + "], due is [" + want + "]");
+            System.out.println(test + what + " answered [" + got + "], due is [" + want + "]");
         }
     }
 
@@ -27,75 +72,69 @@ final class Check {
         }
     }
 
-    /** Up to eight bytes as one number, the first one lowest. */
-    static long word(String bytes) {
-        long w = 0;
-        for (int i = 0; i < bytes.length() && i < 8; i++) {
-            w |= (long) (bytes.charAt(i) & 255) << (8 * i);
+    /** The tree of a text by the book of most tests, in the plain form, or "kind@place" of its fault. */
+    void tree(String text, String want) {
+        due("tree of [" + text + "]", Run.withText(text).tree(), want);
+    }
+
+    /** What a call answers, and that it changes nothing: whatever is asked later is answered as if it had not been. */
+    void refused(String what, Supplier<Run> made, ToIntFunction<Run> call, int want) {
+        Run touched = made.get();
+        due(what, call.applyAsInt(touched), want);
+        due(what + " changes nothing:", probe(touched), probe(made.get()));
+    }
+
+    /** Answers to some 200 calls: of all that can be asked first, then of acts that show what cannot be asked. */
+    static String probe(Run x) {
+        List<Integer> answers = new ArrayList<>();
+        ask(x, answers);
+        answers.addAll(Arrays.asList(x.mend(), x.mended(0), x.mended(1), x.deepen(), x.markAt(0)));
+        answers.addAll(Arrays.asList(x.read(), x.fault(0), x.fault(1), x.fault(2), x.fault(3), x.count(0), x.count(1),
+                x.count(2), x.same(), x.parts(), x.plain()));
+        for (int i = 0; i < 20; i++) {
+            answers.add(x.written(i));
         }
-        return w;
+        answers.addAll(Arrays.asList(x.tab(0), x.opener(Run.word("zz"), 1), x.pair('^', '_'), x.closer(Run.word("yy")),
+                x.goer('|'), x.feed('q'), x.cut(0), x.keep()));
+        return answers.toString();
     }
 
-    /** Feeds a whole text: how many bytes the reader's text has then. */
-    static int feed(IndentReader x, String text) {
-        int size = x.count(4);
-        for (int i = 0; i < text.length(); i += 8) {
-            size = x.feed(word(text.substring(i, Math.min(text.length(), i + 8))));
+    private static void ask(Run x, List<Integer> answers) {
+        for (int what = 0; what < 5; what++) {
+            answers.addAll(Arrays.asList(x.count(what), x.fault(what), x.mended(what)));
         }
-        return size;
+        for (int i : new int[] {0, 1, 2, 9, 199}) {
+            answers.add(x.markAt(i));
+        }
+        for (int i = 0; i < 30; i++) {
+            answers.addAll(Arrays.asList(x.written(i), x.byteAt(i)));
+        }
+        answers.addAll(Arrays.asList(x.byteAt(598), x.byteAt(599), x.written(3998), x.written(3999)));
+        for (int k = 0; k < 3; k++) {
+            for (int what = 0; what < 8; what++) {
+                answers.addAll(Arrays.asList(x.token(k, what), x.block(k, what)));
+            }
+        }
+        answers.addAll(Arrays.asList(x.item(0, 3), x.part(0, 0), x.reach(true, 0, 3), x.around(0, 0)));
+        answers.addAll(Arrays.asList(x.same(), x.parts()));
     }
 
-    /** The book of most tests: all kinds of openers, two pairs, a closer, a goer. */
-    static IndentReader withBook() {
-        IndentReader x = new IndentReader();
-        x.opener(word("do"), 1);
-        x.opener(word(":"), 1);
-        x.opener(word("of"), 3);
-        x.opener(word("let"), 5);
-        x.opener(word("hang"), 2);
-        x.opener(word("="), 2);
-        x.closer(word("in"));
-        x.pair('(', ')');
-        x.pair('[', ']');
-        x.goer('-');
-        return x;
-    }
-
-    static IndentReader withText(String text) {
-        IndentReader x = withBook();
-        feed(x, text);
-        return x;
-    }
-
-    static IndentReader afterRead(String text) {
-        IndentReader x = withText(text);
-        x.read();
-        return x;
-    }
-
-    static String textOf(IndentReader x) {
+    /** The whole of a long page, each piece of it from a new run, since one run has not calls enough. */
+    static String longPage(Supplier<Run> made, int size) {
         StringBuilder s = new StringBuilder();
-        for (int i = 0; i < x.count(4); i++) {
-            s.append((char) x.byteAt(i));
+        for (int from = 0; from < size; from += 300) {
+            s.append(made.get().pageFrom(from, Math.min(size, from + 300)));
         }
         return s.toString();
     }
 
-    static String pageOf(IndentReader x) {
+    /** The whole of a long text, likewise. */
+    static String longText(Supplier<Run> made) {
         StringBuilder s = new StringBuilder();
-        for (int i = 0; i < 4000 && x.written(i) != IndentReader.NONE; i++) {
-            s.append((char) x.written(i));
+        int size = made.get().count(4);
+        for (int from = 0; from < size; from += 300) {
+            s.append(made.get().textFrom(from, Math.min(size, from + 300)));
         }
         return s.toString();
-    }
-
-    /** The tree of a text in the plain form, or "kind@place" of its fault. */
-    static String treeOf(String text) {
-        IndentReader x = afterRead(text);
-        if (x.fault(0) != 0) {
-            return x.fault(0) + "@" + x.fault(1);
-        }
-        x.plain();
-        return pageOf(x);
     }
 }

@@ -14,6 +14,8 @@ public final class ExtremesTest {
     private static final String[] TEXTS = {"", "a", "let x (b)\n    y do\n      'q\nr' 12\n  in of\nz -\n 7", "a\n b", "a )",
         "=".repeat(600), "()".repeat(300), "a\n".repeat(300), " ".repeat(600), "'" + "\n".repeat(598) + "'",
         "(".repeat(600), "\u00ff", "of a -\nof b"};
+    /** Nothing is promised of more than 512 calls: so a new object comes ahead of that. */
+    private static final int CALLS = 350;
     private static final Check check = new Check();
 
     private static IndentReader x;
@@ -39,17 +41,17 @@ public final class ExtremesTest {
         m = new Model();
         for (String opener : new String[] {"do", "of", "let", "="}) {
             int kind = opener.equals("do") ? 1 : opener.equals("of") ? 3 : opener.equals("let") ? 5 : 2;
-            x.opener(Check.word(opener), kind);
-            m.opener(Check.word(opener), kind);
+            x.opener(Run.word(opener), kind);
+            m.opener(Run.word(opener), kind);
         }
-        x.closer(Check.word("in"));
-        m.closer(Check.word("in"));
+        x.closer(Run.word("in"));
+        m.closer(Run.word("in"));
         x.pair('(', ')');
         m.pair('(', ')');
         x.goer('-');
         m.goer('-');
         for (int i = 0; i < text.length(); i += 8) {
-            long w = Check.word(text.substring(i, Math.min(text.length(), i + 8)));
+            long w = Run.word(text.substring(i, Math.min(text.length(), i + 8)));
             x.feed(w);
             m.feed(w);
         }
@@ -64,6 +66,7 @@ public final class ExtremesTest {
         boolean changes = List.of("opener", "pair", "closer", "goer", "tab", "feed", "cut", "shift", "mend", "read")
                 .contains(method.getName());
         renew(text, readings);
+        int calls = 0;
         for (Object[] arguments : mixtures(method.getParameterTypes())) {
             String call = method.getName() + Arrays.toString(arguments) + " of [" + text + "] read " + readings;
             int want = (Integer) model.invoke(m, arguments);
@@ -73,19 +76,24 @@ public final class ExtremesTest {
             } catch (InvocationTargetException thrown) {
                 check.due(call + " threw " + thrown.getCause(), 1, 0);
             }
+            calls++;
             if (changes && want >= 0) {
-                check.due("bytes after " + call, Check.textOf(x).hashCode(), modelText().hashCode());
+                sameText(call);
+            }
+            if (changes && want >= 0 || calls == CALLS) {
                 renew(text, readings);
+                calls = 0;
             }
         }
     }
 
-    private static String modelText() {
-        StringBuilder s = new StringBuilder();
-        for (int i = 0; i < m.count(4); i++) {
-            s.append((char) m.byteAt(i));
+    private static void sameText(String call) {
+        int size = m.count(4);
+        check.due("bytes after " + call, x.count(4), size);
+        for (int i = 0; i < 30; i++) {
+            check.due("byte " + i + " after " + call, x.byteAt(i), m.byteAt(i));
+            check.due("byte " + i + " from the last after " + call, x.byteAt(size - i), m.byteAt(size - i));
         }
-        return s.toString();
     }
 
     private static List<Object[]> mixtures(Class<?>[] types) {

@@ -2,15 +2,16 @@ import java.util.Random;
 
 /** All promises: long runs of calls, by chance but always the same ones, held against the model. */
 public final class ModelTest {
-    private static final int RUNS = 100;
-    private static final int CALLS = 500;
+    private static final int RUNS = 1000;
+    /** As many calls as one act makes at most, but for its loops, which end ahead of that. */
+    private static final int CALLS_OF_AN_ACT = 60;
     private static final String[] TOKENS = {"a", "b", "if", "do", ":", "of", "let", "hang", "=", "in", "(", ")", "[", "]",
         "-", "+", "7", "'q'", "'x\n y'", "# note", "a", "b", "c", ";"};
     private static final Check check = new Check();
     private static final int[] met = new int[17];
 
     private Random chance;
-    private IndentReader x;
+    private Run x;
     private Model m;
     private StringBuilder told;
     private boolean wrong;
@@ -34,17 +35,22 @@ public final class ModelTest {
 
     private boolean runOf(int seed) {
         chance = new Random(seed);
-        x = new IndentReader();
+        x = new Run();
         m = new Model();
         told = new StringBuilder();
         tellBook();
-        for (int call = 0; call < CALLS && !wrong; call++) {
+        while (!spent()) {
             act();
         }
         if (wrong) {
             System.out.println(told);
         }
         return wrong;
+    }
+
+    /** Nothing is promised of later calls. */
+    private boolean spent() {
+        return wrong || x.callsLeft() < CALLS_OF_AN_ACT;
     }
 
     private int below(int n) {
@@ -83,13 +89,13 @@ public final class ModelTest {
     private void tellBook() {
         boolean soft = below(3) == 0;
         int[] kinds = {1, 2, 3, 5};
-        opener(Check.word("do"), soft ? 2 : 1);
-        opener(Check.word(":"), kinds[below(4)]);
-        opener(Check.word("of"), 3);
-        opener(Check.word("let"), 5);
-        opener(Check.word("hang"), 2);
-        opener(Check.word("="), kinds[below(4)]);
-        closer(Check.word("in"));
+        opener(Run.word("do"), soft ? 2 : 1);
+        opener(Run.word(":"), kinds[below(4)]);
+        opener(Run.word("of"), 3);
+        opener(Run.word("let"), 5);
+        opener(Run.word("hang"), 2);
+        opener(Run.word("="), kinds[below(4)]);
+        closer(Run.word("in"));
         pair('(', ')');
         if (below(2) == 0) {
             pair('[', ']');
@@ -101,8 +107,8 @@ public final class ModelTest {
     }
 
     private void feed(String text) {
-        for (int i = 0; i < text.length(); i += 8) {
-            long w = Check.word(text.substring(i, Math.min(text.length(), i + 8)));
+        for (int i = 0; i < text.length() && !spent(); i += 8) {
+            long w = Run.word(text.substring(i, Math.min(text.length(), i + 8)));
             int got = due("feed(" + w + ")", x.feed(w), m.feed(w));
             met[15] += got == IndentReader.FULL ? 1 : 0;
         }
@@ -190,7 +196,7 @@ public final class ModelTest {
 
     private void readNow() {
         int got = due("read()", x.read(), m.read());
-        met[got >= 0 ? 0 : x.fault(0)]++;
+        met[got >= 0 ? 0 : m.fault(0)]++;
         met[16] += got > 40 ? 1 : 0;
         for (int what = -1; what < 5; what++) {
             due("fault(" + what + ")", x.fault(what), m.fault(what));
@@ -198,23 +204,23 @@ public final class ModelTest {
         for (int what = -1; what < 6; what++) {
             due("count(" + what + ")", x.count(what), m.count(what));
         }
-        if (got >= 0 && below(6) == 0) {
+        if (got >= 0 && below(8) == 0) {
             askAll();
         }
     }
 
     private void askAll() {
-        for (int k = -1; k <= x.count(0) && !wrong; k++) {
+        for (int k = -1; k <= m.count(0) && !spent(); k++) {
             for (int what = -1; what < 9; what++) {
                 due("token(" + k + ", " + what + ")", x.token(k, what), m.token(k, what));
             }
         }
-        for (int k = -1; k <= x.count(1) && !wrong; k += 1 + below(3)) {
+        for (int k = -1; k <= m.count(1) && !spent(); k += 1 + below(3)) {
             for (int what = -1; what < 9; what++) {
                 due("block(" + k + ", " + what + ")", x.block(k, what), m.block(k, what));
             }
         }
-        for (int k = -1; k <= x.count(2) && !wrong; k += 1 + below(3)) {
+        for (int k = -1; k <= m.count(2) && !spent(); k += 1 + below(3)) {
             for (int what = -1; what < 6; what++) {
                 due("item(" + k + ", " + what + ")", x.item(k, what), m.item(k, what));
             }
@@ -224,30 +230,39 @@ public final class ModelTest {
         }
     }
 
+    /** Places at and beyond both ends, and some in between. */
+    private int[] placesOf(int size, int most) {
+        int[] places = {-1, 0, size - 2, size - 1, size, most - 1, most, 0, 0, 0, 0, 0, 0, 0, 0};
+        for (int i = 7; i < places.length; i++) {
+            places[i] = below(size + 1);
+        }
+        return places;
+    }
+
     private void page() {
-        for (int i = -1; i <= 4000 && !wrong; i++) {
-            if (x.written(i) != m.written(i)) {
-                due("written(" + i + ")", x.written(i), m.written(i));
-            }
+        int size = 0;
+        while (m.written(size) != IndentReader.NONE) {
+            size++;
+        }
+        for (int i : placesOf(size, 4000)) {
+            due("written(" + i + ")", x.written(i), m.written(i));
         }
     }
 
     private void textNow() {
-        for (int i = -1; i <= 600 && !wrong; i++) {
-            if (x.byteAt(i) != m.byteAt(i)) {
-                due("byteAt(" + i + ")", x.byteAt(i), m.byteAt(i));
-            }
+        for (int i : placesOf(m.count(4), 600)) {
+            due("byteAt(" + i + ")", x.byteAt(i), m.byteAt(i));
         }
     }
 
     private int some(int what) {
-        int most = x.count(what);
+        int most = m.count(what);
         return most < 0 ? below(4) : below(most + 3) - 1;
     }
 
     private void mend() {
         // The model tries every shift by a whole new reading: long texts are dear.
-        if (x.count(4) > 120 && below(25) != 0) {
+        if (m.count(4) > 120 && below(25) != 0) {
             return;
         }
         int got = due("mend()", x.mend(), m.mend());
@@ -281,7 +296,7 @@ public final class ModelTest {
             case 10: case 11: {
                 int n = below(10);
                 int got = due("write(" + n + ")", x.write(n), m.write(n));
-                boolean good = x.count(0) >= 0;
+                boolean good = m.count(0) >= 0;
                 met[9] += got > 0 ? 1 : 0;
                 met[10] += good && got == IndentReader.STATE ? 1 : 0;
                 met[11] += got == IndentReader.FULL ? 1 : 0;
@@ -307,10 +322,8 @@ public final class ModelTest {
             }
             case 18: {
                 due("deepen()", x.deepen(), m.deepen());
-                for (int i = -1; i <= 200; i++) {
-                    if (x.markAt(i) != m.markAt(i)) {
-                        due("markAt(" + i + ")", x.markAt(i), m.markAt(i));
-                    }
+                for (int i : placesOf(Math.max(0, m.count(0)), 200)) {
+                    due("markAt(" + i + ")", x.markAt(i), m.markAt(i));
                 }
                 break;
             }
@@ -344,7 +357,7 @@ public final class ModelTest {
         switch (below(5)) {
             case 0: opener(below(2) == 0 ? mark : 'a' + below(6), below(7)); break;
             case 1: pair(mark, marks.charAt(below(marks.length()))); break;
-            case 2: closer(Check.word(TOKENS[below(TOKENS.length)])); break;
+            case 2: closer(Run.word(TOKENS[below(TOKENS.length)])); break;
             case 3: goer(mark); break;
             default: tab(below(11) - 1); break;
         }

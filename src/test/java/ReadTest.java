@@ -1,272 +1,174 @@
-/** Promises 12 and 13: read, fault, with the terms THE TEXT, THE TREE and FAULTS that they lean on. */
+import java.util.function.Supplier;
+
+/** Promises 12 and 13: read, fault. */
 public final class ReadTest {
-    private static final int OUTSIDE = IndentReader.OUTSIDE, NONE = IndentReader.NONE;
+    private static final int OUTSIDE = -2, STATE = -3, NONE = -9;
     private static final Check check = new Check();
 
     public static void main(String[] args) {
-        tokens();
-        bytesThatAreNoTokens();
-        tabs();
-        faultsOfBytesComeFirst();
-        trees();
-        deeperBlocks();
-        lists();
-        lets();
-        brackets();
-        goersAndQuotes();
-        emptyBlocks();
-        placesOfFaults();
-        faultOfTheLatestRead();
-        check.end();
-    }
-
-    private static void tree(String text, String want) {
-        check.due("tree of [" + text + "]", Check.treeOf(text), want);
+        check.runAll(ReadTest.class);
     }
 
     private static void reads(String text, int want) {
-        check.due("read() of [" + text + "]", Check.withText(text).read(), want);
+        check.due("read() of [" + text + "]", Run.withText(text).read(), want);
     }
 
-    private static void tokens() {
+    // ---- 12
+
+    @Says(promise = 12, value = "THE TEXT is read: how many TOKENS.")
+    private static void readAnswersHowManyTokens() {
         reads("", 0);
         reads(" \n\n", 0);
         reads("# a note", 0);
-        reads("abcdefgh", 1);
-        reads("123456789", 1);
+        reads("a", 1);
         reads("abcdefgh123456789", 2);
         reads("a1b", 3);
         reads("a''b", 3);
         reads("a!\"$%&*+,./;<>?@^_|", 19);
-        reads("'a b # { \u00c8 \n\n c'", 1);
-        reads("a # 'b { \u00c8\nc", 2);
-        reads("a#b", 1);
-        reads("'''a'", 2);
-        reads("''''", 2);
+        reads("(a) do\n [b]", 7);
+        reads(";".repeat(600), 600);
+        reads("a of", 2);
+        Run x = Run.withText("a b");
+        check.due("once", x.read(), 2);
+        check.due("and again", x.read(), 2);
+        x.feedAll(" c");
+        check.due("with more bytes", x.read(), 3);
+        x.opener(Run.word("b"), 2);
+        check.due("by another book", x.read(), 3);
+        check.due("which is seen", x.count(1), 2);
     }
 
-    private static void bytesThatAreNoTokens() {
-        reads("abcdefghi", -100);
-        reads("a abcdefghi", -102);
-        reads("a 1234567890", -102);
-        reads("a {", -102);
-        reads("}", -100);
-        reads("A", -100);
-        reads("aB", -101);
-        reads("\u00c8", -100);
-        reads("a\r\nb", -101);
-        reads("~", -100);
-        reads("\\", -100);
-        reads("`", -100);
-        reads("\u007f", -100);
-        reads("a '", -102);
-        reads("a 'bc\nd", -102);
-        reads("'a' 'b", -104);
-        for (int b = 1; b < 256; b++) {
-            boolean mark = "!\"$%&()*+,-./:;<=>?@[]^_|".indexOf(b) >= 0;
-            boolean fine = mark || b == '#' || b >= 'a' && b <= 'z' || b >= '0' && b <= '9'
-                    || b == ' ' || b == '\n';
-            IndentReader x = new IndentReader();
-            x.feed(b);
-            x.read();
-            int want = fine ? 0 : b == 9 ? 2 : 1;
-            check.due("fault of byte " + b, x.fault(0), want);
+    @Says(promise = 12, value = "-100 less PLACE of THE FAULT.")
+    private static void readAnswersMinusHundredLessThePlace() {
+        reads("{", -100);
+        reads(" a", -101);
+        reads("a )", -102);
+        reads("a\tb", -101);
+        reads("a\n b", -103);
+        reads("a (b", -102);
+        reads("do a", -103);
+        reads("do", -102);
+        reads("do\n", -103);
+        reads(" ".repeat(599) + "{", -699);
+        reads("a :" + " ".repeat(597), -700);
+        Run x = Run.withText("a )");
+        check.due("once", x.read(), -102);
+        check.due("and again", x.read(), -102);
+        x.cut(1);
+        check.due("no more", x.read(), 1);
+    }
+
+    @Says(promise = 12, value = {"THE TEXT is read: how many TOKENS.", "-100 less PLACE of THE FAULT."})
+    private static void readLeavesNothingOfTheOneBefore() {
+        Run x = Run.afterRead("of a (b) = c\n   d");
+        x.readAnew("e");
+        check.due("tokens", x.count(0), 1);
+        check.due("blocks", x.count(1), 1);
+        check.due("items", x.count(2), 1);
+        check.due("parts", x.item(0, 3), 1);
+        x.readAnew("a (b");
+        check.due("nothing with a fault", x.count(0), STATE);
+        x.readAnew("a b");
+        check.due("two without", x.count(0), 2);
+        check.due("no fault", x.fault(0), 0);
+    }
+
+    // ---- 13
+
+    private static void faultAt(String text, int tab, int kind, int place, int line, int column) {
+        Run x = Run.withText(text);
+        x.tab(tab);
+        check.due("read() of [" + text + "]", x.read(), -100 - place);
+        int[] wants = {kind, place, line, column};
+        for (int what = 0; what < 4; what++) {
+            check.due("fault(" + what + ") of [" + text + "]", x.fault(what), wants[what]);
         }
     }
 
-    private static void tabs() {
-        tree("a\tb", "2@1");
-        tree("\t", "2@0");
-        tree("'a\tb'", "2@2");
-        tree("# \t", "2@2");
-        IndentReader x = Check.withText("a do\n\tb\n    c\n  \td");
+    @Says(promise = 13, value = "THE FAULT of the latest read():")
+    private static void faultIsOfTheLatestRead() {
+        Run x = Run.afterRead("a\n b");
+        x.readAnew("a b )");
+        check.due("kind of the later one", x.fault(0), 5);
+        check.due("place of the later one", x.fault(1), 4);
+        x.cut(3);
+        int[] wants = {5, 4, 0, 4};
+        for (int what = 0; what < 4; what++) {
+            check.due("of the latest, though the text is another one: " + what, x.fault(what), wants[what]);
+        }
         x.tab(4);
-        check.due("tabs and blanks", x.read(), 5);
-        x.plain();
-        check.due("at one column", Check.pageOf(x), "a do { b ; c ; d }");
-        x.tab(5);
-        check.due("other tabs", x.read(), -112);
-        check.due("in", x.fault(0), 4);
+        check.due("and the book", x.fault(0), 5);
+        x.read();
+        check.due("none by the next one", x.fault(0), 0);
+        for (int what = 1; what < 4; what++) {
+            check.due("none by the next one: " + what, x.fault(what), NONE);
+        }
     }
 
-    private static void faultsOfBytesComeFirst() {
-        tree("a\n b {", "1@5");
-        tree("a )\t", "2@3");
-        tree("( {", "1@2");
-        tree("{\t", "1@0");
-        tree("\t{", "2@0");
-        tree("'a\tb", "1@0");
-        tree("a \t'b", "2@2");
-        tree("abcdefghi\t", "1@0");
-        tree("{}", "1@0");
-        tree("a ) ) (", "5@2");
+    @Says(promise = 13, value = "what = 0 its kind (0: none, or none was read),")
+    private static void faultNoughtIsItsKind() {
+        check.due("none was read", new Run().fault(0), 0);
+        check.due("not yet", Run.withText("a {").fault(0), 0);
+        check.due("none", Run.afterRead("a").fault(0), 0);
+        check.due("none in an empty text", Run.afterRead("").fault(0), 0);
+        String[] texts = {"{", "\t", "do a", "a\n b", ")", "("};
+        for (int kind = 1; kind <= 6; kind++) {
+            check.due("kind " + kind, Run.afterRead(texts[kind - 1]).fault(0), kind);
+        }
     }
 
-    private static void trees() {
-        tree("", "");
-        tree("a b\nc", "a b ; c");
-        tree("\n\n  # n\na", "a");
-        tree(" a", "4@1");
-        tree("a\n b", "4@3");
-        tree("a # do ( '\nb", "a ; b");
-        tree("a  b   7 'q'", "a b 7 'q'");
-    }
-
-    private static void deeperBlocks() {
-        tree("a do\n  b\n  c\nd", "a do { b ; c } ; d");
-        tree("a:\n b", "a : { b }");
-        tree("a do\nb", "3@5");
-        tree("a do b", "3@5");
-        tree("a do", "3@4");
-        tree("a do\n", "3@5");
-        tree("a do # x", "3@8");
-        tree("a do\n  b do\n    c\nd", "a do { b do { c } } ; d");
-        tree("a do\n  b do\n  c", "3@14");
-        tree("a do\n  b\n c", "4@10");
-        tree("a do\n  b\n   c", "4@12");
-        tree("of a\n    b do\n    c", "3@18");
-        tree("of a\n    b do\n     c", "of { a b do { c } }");
-        tree("do )", "3@3");
-        tree("do\n )", "3@4");
-        tree("do\n in", "3@4");
-        tree("let x do\n         in", "3@18");
-        tree("do\n (a)", "do { ( a ) }");
-        tree("a do\n  b\n do\n   c", "4@10");
-    }
-
-    private static void lists() {
-        tree("of a\n   b", "of { a ; b }");
-        tree("of a\n    b", "of { a b }");
-        tree("of a\n  b", "4@7");
-        tree("of a\nb", "of { a } ; b");
-        tree("of\n a\n b", "of { a ; b }");
-        tree("hang a\n     b", "hang { a ; b }");
-        tree("hang a\n      b", "4@13");
-        tree("hang a do\n       b", "hang { a do { b } }");
-        tree("of = a", "of { = { a } }");
-        tree("of a = b\n       c\n   d", "of { a = { b ; c } ; d }");
-        tree("of a do\n     x\n    y", "of { a do { x } y }");
-        tree("of a = b\n    c", "of { a = { b } c }");
-    }
-
-    private static void lets() {
-        tree("let x\n    y\nin z", "let { x ; y } in z");
-        tree("let x in y", "let { x } in y");
-        tree("let x\n      y\n    z", "let { x y ; z }");
-        tree("let let x in in y", "let { let { x } in } in y");
-        tree("let x of y in z", "let { x of { y } } in z");
-        tree("let x (in) in y", "let { x ( in ) } in y");
-        tree("do\n  let x\n  in y\n  z", "do { let { x } in y ; z }");
-        tree("let x\n        in y", "let { x } in y");
-        tree("in x", "in x");
-        tree("a in\nin", "a in ; in");
-        tree("let x in in", "let { x } in in");
-        tree("a\n in", "4@3");
-        tree("of a in b", "of { a in b }");
-        tree("let of x do\n         y\n in z", "let { of { x do { y } } } in z");
-    }
-
-    private static void brackets() {
-        tree("(a\nb)", "( a b )");
-        tree("(a\n   b)\nc", "( a b ) ; c");
-        tree("()", "( )");
-        tree("([a](b))", "( [ a ] ( b ) )");
-        tree("a )", "5@2");
-        tree("(a]", "5@2");
-        tree("([a)]", "5@3");
-        tree("((a)", "6@0");
-        tree("a (b [c", "6@2");
-        tree("(do x)", "( do x )");
-        tree("(do)\na", "( do ) ; a");
-        tree("(a of)\nb", "( a of ) ; b");
-        tree("(of", "6@0");
-        tree("(do", "6@0");
-        tree("a do\n  (\nb\n)\n  c", "a do { ( b ) ; c }");
-        tree("of (a\n)\n   b", "of { ( a ) ; b }");
-        tree("(a\n)", "( a )");
-        tree("a do\n  b )", "5@9");
-    }
-
-    private static void goersAndQuotes() {
-        tree("a -\n  b", "a - b");
-        tree("a -\nb\nc", "a - b ; c");
-        tree("a -\n\n# n\n  b", "a - b");
-        tree("a do\n  b -\nc\n  d", "a do { b - c ; d }");
-        tree("(-\n)\nb", "( - ) ; b");
-        tree("(-)\nb", "( - ) ; b");
-        tree("- a\nb", "- a ; b");
-        tree("a 'x\ny' b", "a 'x\ny' b");
-        tree("a 'x\n' b\nc", "a 'x\n' b ; c");
-        tree("a 'x\n'\nc", "a 'x\n' ; c");
-        tree("a do\n  'x\n\n' b\n  c", "a do { 'x\n\n' b ; c }");
-        tree("do 'x\n  ' b", "3@3");
-        tree("a\n'x'\n 'y'", "4@7");
-    }
-
-    private static void emptyBlocks() {
-        tree("of", "of { }");
-        tree("a of\n", "a of { }");
-        tree("of\nx", "of { } ; x");
-        tree("let in x", "let { } in x");
-        tree("let", "let { }");
-        tree("of )", "5@3");
-        tree("(of )", "( of )");
-        tree("let x of in y", "let { x of { } } in y");
-        tree("let let in x", "let { let { } } in x");
-        tree("do\n  of\n  x", "do { of { } ; x }");
-        tree("do\n  of\nx", "do { of { } } ; x");
-        tree("of a -\nof b", "of { a - of { } b }");
-        tree("of = \n   b", "of { = { } ; b }");
-        tree("= = =", "= { = { = { } } }");
-    }
-
-    private static void faultAt(String text, int tab, int kind, int place, int line, int column) {
-        IndentReader x = Check.withText(text);
-        x.tab(tab);
-        check.due("read() of [" + text + "]", x.read(), -100 - place);
-        check.due("kind of [" + text + "]", x.fault(0), kind);
-        check.due("place of [" + text + "]", x.fault(1), place);
-        check.due("line of [" + text + "]", x.fault(2), line);
-        check.due("column of [" + text + "]", x.fault(3), column);
-    }
-
-    private static void placesOfFaults() {
+    @Says(promise = 13, value = "1 PLACE, 2 its LINE, 3 its COLUMN")
+    private static void faultTellsPlaceLineAndColumn() {
+        faultAt("{", 0, 1, 0, 0, 0);
         faultAt("a\nb\n  {", 0, 1, 6, 2, 2);
         faultAt("a\nb \t", 0, 2, 4, 1, 2);
+        faultAt("a\n\t\tb", 0, 2, 2, 1, 0);
         faultAt("a\t{", 4, 1, 2, 0, 4);
         faultAt("a do\n\n b\n\tc", 3, 4, 10, 3, 3);
-        faultAt("a do", 0, 3, 4, 0, 4);
-        faultAt("a do\n", 0, 3, 5, 1, 0);
-        faultAt("a do\n  ", 0, 3, 7, 1, 2);
-        faultAt("a do\n\n\n", 0, 3, 7, 3, 0);
-        faultAt("a do \t", 4, 3, 6, 0, 8);
-        faultAt("a do\t", 4, 3, 5, 0, 8);
         faultAt("a\nb )", 0, 5, 4, 1, 2);
         faultAt("a\nb ( [ c\nd", 0, 6, 4, 1, 2);
         faultAt("a 'b\nc", 0, 1, 2, 0, 2);
+        faultAt("'a\n b' )", 0, 5, 7, 1, 4);
         faultAt("a do\n\tb\n\n\t c", 8, 4, 11, 3, 9);
+        faultAt("\n".repeat(599) + "{", 0, 1, 599, 599, 0);
+        faultAt("a" + "\t".repeat(598) + "{", 8, 1, 599, 0, 598 * 8);
     }
 
-    private static void faultOfTheLatestRead() {
-        IndentReader x = Check.withText("a\n b");
-        check.due("none was read", x.fault(0), 0);
-        for (int what = 1; what < 4; what++) {
-            check.due("none was read: " + what, x.fault(what), NONE);
+    @Says(promise = 13, value = "(the end: of the last LINE behind its last byte, behind a byte 10 the next LINE's 0);")
+    private static void faultAtTheEnd() {
+        faultAt("do", 0, 3, 2, 0, 2);
+        faultAt("a do", 0, 3, 4, 0, 4);
+        faultAt("a do # x", 0, 3, 8, 0, 8);
+        faultAt("a do\n  ", 0, 3, 7, 1, 2);
+        faultAt("a do\t", 4, 3, 5, 0, 8);
+        faultAt("a do \t", 4, 3, 6, 0, 8);
+        faultAt("a do\n\t", 8, 3, 6, 1, 8);
+        faultAt("a do\n", 0, 3, 5, 1, 0);
+        faultAt("a do\n\n\n", 0, 3, 7, 3, 0);
+        faultAt("a do\n  \n", 0, 3, 8, 2, 0);
+        faultAt("a :" + " ".repeat(597), 0, 3, 600, 0, 600);
+        faultAt("a :" + "\n".repeat(597), 0, 3, 600, 597, 0);
+    }
+
+    @Says(promise = 13, value = "1 to 3: NONE without.")
+    private static void faultIsNoneWithout() {
+        Run[] all = {new Run(), Run.withText("a {"), Run.afterRead("a"), Run.afterRead("")};
+        for (int i = 0; i < all.length; i++) {
+            for (int what = 1; what < 4; what++) {
+                check.due(i + ": fault(" + what + ")", all[i].fault(what), NONE);
+            }
         }
-        check.due("outside, not read", x.fault(4), OUTSIDE);
-        x.read();
-        check.due("in", x.fault(0), 4);
-        check.due("outside", x.fault(4), OUTSIDE);
-        check.due("below", x.fault(-1), OUTSIDE);
-        x.cut(0);
-        check.due("of the latest read, though the text is another one", x.fault(0), 4);
-        check.due("with its place", x.fault(1), 3);
-        check.due("with its line", x.fault(2), 1);
-        check.due("with its column", x.fault(3), 1);
-        x.read();
-        check.due("none now", x.fault(0), 0);
-        for (int what = 1; what < 4; what++) {
-            check.due("none now: " + what, x.fault(what), NONE);
+    }
+
+    @Says(promise = 13, value = "OUTSIDE.")
+    private static void aFaultOutside() {
+        for (String text : new String[] {"a", "a )"}) {
+            Supplier<Run> some = () -> Run.afterRead(text);
+            for (int what : new int[] {-1, 4, Integer.MIN_VALUE, Integer.MAX_VALUE}) {
+                check.refused("fault(" + what + ") of [" + text + "]", some, x -> x.fault(what), OUTSIDE);
+            }
         }
+        check.due("not read", new Run().fault(4), OUTSIDE);
+        check.due("not read, below", new Run().fault(-1), OUTSIDE);
     }
 }

@@ -1,188 +1,310 @@
+import java.util.function.Supplier;
+import java.util.function.ToIntFunction;
+
 /** Promises 7 to 11: feed, cut, shift, keep, byteAt. */
 public final class TextTest {
-    private static final int UNKNOWN = IndentReader.UNKNOWN, OUTSIDE = IndentReader.OUTSIDE;
-    private static final int STATE = IndentReader.STATE, FULL = IndentReader.FULL, INDEX = -12;
+    private static final int UNKNOWN = -1, OUTSIDE = -2, STATE = -3, FULL = -4, INDEX = -12;
     private static final Check check = new Check();
 
     public static void main(String[] args) {
-        feeds();
-        feedsUpToTheEnd();
-        cuts();
-        shifts();
-        shiftsThatAreRefused();
-        shiftsOfAFullText();
-        keeps();
-        bytes();
-        lines();
-        actsOfTheTextUnread();
-        refusedActsChangeNothing();
-        check.end();
+        check.runAll(TextTest.class);
     }
 
-    private static void feeds() {
-        IndentReader x = new IndentReader();
-        check.due("eight bytes", x.feed(Check.word("abcdefgh")), 8);
-        check.due("three bytes", x.feed(Check.word("ijk")), 11);
-        check.due("no byte", x.feed(0), 11);
-        check.due("bytes behind a 0", x.feed(Check.word("l\0mnopqr")), 12);
-        check.due("0 ahead", x.feed(Check.word("\0mnopqrs")), 12);
-        check.due("the lowest first", Check.textOf(x), "abcdefghijkl");
-        check.due("great bytes", x.feed(-1L), 20);
-        check.due("byte 255", x.byteAt(19), 255);
-        check.due("byte 128 alone", x.feed(128L), 21);
-        check.due("it is 128", x.byteAt(20), 128);
-    }
-
-    private static void feedsUpToTheEnd() {
-        IndentReader x = new IndentReader();
-        for (int i = 1; i <= 74; i++) {
-            x.feed(Check.word("12345678"));
+    private static void unread(String what, ToIntFunction<Run> act, int want) {
+        Run x = Run.afterRead("a b");
+        check.due("read ahead of " + what, x.count(0), 2);
+        check.due(what, act.applyAsInt(x), want);
+        for (int count = 0; count < 3; count++) {
+            check.due("read no more by " + what, x.count(count), STATE);
         }
-        check.due("592 bytes", x.count(4), 592);
-        check.due("597 bytes", x.feed(Check.word("abcde")), 597);
-        check.due("4 are too many", x.feed(Check.word("fghi")), FULL);
-        check.due("nothing came", x.count(4), 597);
-        check.due("3 are not", x.feed(Check.word("fgh")), 600);
-        check.due("none are not", x.feed(0), 600);
-        check.due("1 is", x.feed(Check.word("i")), FULL);
-        check.due("the last one", x.byteAt(599), 'h');
-        check.due("cut one", x.cut(599), 1);
-        check.due("1 is not", x.feed(Check.word("i")), 600);
+        check.due("no token by " + what, x.token(0, 0), STATE);
+        check.due("no page by " + what, x.plain(), STATE);
+        check.due("read again after " + what, x.readAnew("a"), 1);
+        check.due("counted again after " + what, x.count(0), 1);
+        Run faulty = Run.afterRead("a\n b");
+        act.applyAsInt(faulty);
+        check.due("a fault is to be mended no more by " + what, faulty.mend(), STATE);
     }
 
-    private static void cuts() {
-        IndentReader x = new IndentReader();
+    // ---- 7
+
+    @Says(promise = 7, value = "Eight bytes come behind THE TEXT, the lowest of w first,")
+    private static void eightBytesTheLowestFirst() {
+        Run x = new Run();
+        check.due("eight", x.feed(0x6867666564636261L), 8);
+        check.due("eight more", x.feed(0x706f6e6d6c6b6a69L), 16);
+        check.due("the lowest first, behind the text", x.text(), "abcdefghijklmnop");
+        check.due("great bytes", x.feed(-1L), 24);
+        check.due("255", x.byteAt(23), 255);
+        check.due("the highest alone of 128", x.feed(0x8001010101010101L), 32);
+        check.due("128", x.byteAt(31), 128);
+        check.due("1", x.byteAt(30), 1);
+    }
+
+    @Says(promise = 7, value = "as far as they are not 0 (a 0 ends them): how many it has.")
+    private static void aByteNoughtEndsThem() {
+        Run x = new Run();
+        check.due("none", x.feed(0), 0);
+        check.due("one", x.feed('a'), 1);
+        check.due("seven", x.feed(0x0068676665646362L), 8);
+        check.due("a 0 in between", x.feed(0x6161616161610069L), 9);
+        check.due("a 0 first", x.feed(0x6161616161616100L), 9);
+        check.due("none again", x.feed(0), 9);
+        check.due("the bytes", x.text(), "abcdefghi");
+        check.due("none behind them", x.byteAt(9), INDEX);
+    }
+
+    @Says(promise = 7, value = "FULL: there would be more than 600.")
+    private static void moreThanSixHundredAreTooMany() {
+        Supplier<Run> some = () -> Run.afterRead("a b" + " ".repeat(594));
+        check.due("597", some.get().count(4), 597);
+        check.due("599", some.get().feed(Run.word("cd")), 599);
+        check.due("600", some.get().feed(Run.word("cde")), 600);
+        check.refused("601", some, x -> x.feed(Run.word("cdef")), FULL);
+        check.refused("605", some, x -> x.feed(Run.word("cdefghij")), FULL);
+        check.due("600 and a 0", some.get().feed(Run.word("cde\0fghi")), 600);
+        Supplier<Run> full = () -> Run.afterRead("a b" + " ".repeat(597));
+        check.due("none more", full.get().feed(0), 600);
+        check.due("none more ahead of a 0", full.get().feed(0x6100), 600);
+        check.refused("one more", full, x -> x.feed('c'), FULL);
+        check.refused("eight more", full, x -> x.feed(-1L), FULL);
+        Run eight = Run.withText("a".repeat(592));
+        check.due("592 and 8", eight.feed(Run.word("abcdefgh")), 600);
+        check.due("the last one", eight.byteAt(599), 'h');
+        check.due("one goes", eight.cut(599), 1);
+        check.due("one comes", eight.feed('z'), 600);
+    }
+
+    @Says(promise = 7, value = "(It is read no more.)")
+    private static void feedUnreads() {
+        unread("feed", x -> x.feed('c'), 4);
+        unread("feed of nothing", x -> x.feed(0), 3);
+    }
+
+    // ---- 8
+
+    @Says(promise = 8, value = "THE TEXT keeps its first n bytes: how many went.")
+    private static void cutKeepsTheFirst() {
+        Run x = new Run();
         check.due("none of none", x.cut(0), 0);
-        check.due("one of none", x.cut(1), OUTSIDE);
-        Check.feed(x, "abcdef");
+        x.feedAll("abcdef");
         check.due("all stay", x.cut(6), 0);
-        check.due("below 0", x.cut(-1), OUTSIDE);
-        check.due("more than there are", x.cut(7), OUTSIDE);
-        check.due("two go", x.cut(4), 2);
-        check.due("the first stay", Check.textOf(x), "abcd");
-        check.due("all go", x.cut(0), 4);
-        check.due("none are left", x.count(4), 0);
-        Check.feed(x, "z");
-        check.due("new ones come to the beginning", Check.textOf(x), "z");
+        check.due("all of them", x.text(), "abcdef");
+        check.due("one goes", x.cut(5), 1);
+        check.due("four go", x.cut(1), 4);
+        check.due("the first stays", x.text(), "a");
+        check.due("all go", x.cut(0), 1);
+        check.due("none is left", x.count(4), 0);
+        x.feedAll("z");
+        check.due("others come to the beginning", x.text(), "z");
+        check.due("600 go", Run.withText("a".repeat(600)).cut(0), 600);
     }
 
-    private static void shifts() {
-        IndentReader x = new IndentReader();
-        Check.feed(x, "a\n  b\n\nc");
-        check.due("to the right", x.shift(1, 3), 1);
-        check.due("three more", Check.textOf(x), "a\n     b\n\nc");
-        check.due("to the left", x.shift(1, -5), 1);
-        check.due("none left", Check.textOf(x), "a\nb\n\nc");
-        check.due("not at all", x.shift(1, 0), 1);
-        check.due("as it was", Check.textOf(x), "a\nb\n\nc");
-        check.due("first line", x.shift(0, 1), 1);
-        check.due("last line", x.shift(3, 2), 1);
-        check.due("line of no byte", x.shift(2, 1), 1);
-        check.due("all three", Check.textOf(x), " a\nb\n \n  c");
-        check.due("the farthest", x.shift(0, 40), 1);
-        check.due("back", x.shift(0, -40), 1);
-        check.due("all of a last line", x.cut(9), 1);
-        check.due("goes", x.shift(3, -2), 1);
-        check.due("with the line", x.count(3), 3);
-        IndentReader y = new IndentReader();
-        Check.feed(y, " \tx");
-        check.due("ahead of the line's first byte", y.shift(0, 1), 1);
-        check.due("a byte 9 stays", Check.textOf(y), "  \tx");
+    @Says(promise = 8, value = "OUTSIDE.")
+    private static void aCutOutside() {
+        Supplier<Run> some = () -> Run.afterRead("a b");
+        for (int n : new int[] {-1, 4, 600, Integer.MIN_VALUE, Integer.MAX_VALUE}) {
+            check.refused("cut(" + n + ") of 3", some, x -> x.cut(n), OUTSIDE);
+        }
+        check.due("cut(3) of 3", some.get().cut(3), 0);
+        check.due("cut(0) of 3", some.get().cut(0), 3);
+        check.due("cut(1) of none", new Run().cut(1), OUTSIDE);
+        check.due("cut(-1) of none", new Run().cut(-1), OUTSIDE);
+        check.due("cut(601) of 600", Run.withText("a".repeat(600)).cut(601), OUTSIDE);
     }
 
-    private static void shiftsThatAreRefused() {
-        IndentReader x = new IndentReader();
-        check.due("an empty text has no line", x.shift(0, 1), UNKNOWN);
-        Check.feed(x, "a\n  b\n");
-        check.due("line 2", x.shift(2, 1), UNKNOWN);
-        check.due("line -1", x.shift(-1, 1), UNKNOWN);
-        check.due("unknown ahead of outside", x.shift(2, 41), UNKNOWN);
-        check.due("by 41", x.shift(1, 41), OUTSIDE);
-        check.due("by -41", x.shift(1, -41), OUTSIDE);
-        check.due("by the least number", x.shift(1, Integer.MIN_VALUE), OUTSIDE);
-        check.due("a third blank", x.shift(1, -3), STATE);
-        check.due("a first one", x.shift(0, -1), STATE);
-        check.due("nothing changed", Check.textOf(x), "a\n  b\n");
-        IndentReader y = new IndentReader();
-        Check.feed(y, " \t \n  ");
-        check.due("a byte 9 is no such blank", y.shift(0, -2), STATE);
-        check.due("nor is the end of the text", y.shift(1, -3), STATE);
-        check.due("nor that of a line", y.shift(0, -4), STATE);
+    @Says(promise = 8, value = "(It is read no more.)")
+    private static void cutUnreads() {
+        unread("cut", x -> x.cut(2), 1);
+        unread("cut of nothing", x -> x.cut(x.count(4)), 0);
+        unread("cut of all", x -> x.cut(0), 3);
     }
 
-    private static void shiftsOfAFullText() {
-        IndentReader x = new IndentReader();
-        Check.feed(x, " ".repeat(5) + "a".repeat(594));
-        check.due("one more", x.shift(0, 1), 1);
+    // ---- 9
+
+    private static void shifted(String text, int line, int by, String want) {
+        Run x = Run.withText(text);
+        check.due("shift(" + line + ", " + by + ") of [" + text + "]", x.shift(line, by), 1);
+        check.due("the text then", x.text(), want);
+        check.due("its bytes", x.count(4), text.length() + by);
+    }
+
+    @Says(promise = 9, value = {"The HEAD of a LINE is shifted by so many COLUMNS",
+        "(blanks put ahead of its first byte, or taken away there): 1."})
+    private static void aHeadIsShifted() {
+        shifted("a\n  b\nc", 1, 3, "a\n     b\nc");
+        shifted("a\n  b\nc", 1, 1, "a\n   b\nc");
+        shifted("a\n  b\nc", 1, 0, "a\n  b\nc");
+        shifted("a\n  b\nc", 1, -1, "a\n b\nc");
+        shifted("a\n  b\nc", 1, -2, "a\nb\nc");
+        shifted("a\n  b\nc", 0, 2, "  a\n  b\nc");
+        shifted("a\n  b\nc", 2, 2, "a\n  b\n  c");
+        shifted("  a b", 0, -1, " a b");
+        shifted(" \tx", 0, 1, "  \tx");
+        shifted(" \tx", 0, -1, "\tx");
+        Run x = Run.withText("a do\n b");
+        x.shift(1, 3);
+        x.read();
+        check.due("the head's column", x.token(2, 4), 4);
+    }
+
+    @Says(promise = 9, value = "(blanks put ahead of its first byte, or taken away there): 1.")
+    private static void aLineOfBlanksAloneIsShifted() {
+        shifted("a\n\nb", 1, 2, "a\n  \nb");
+        shifted("a\n  \nb", 1, -2, "a\n\nb");
+        shifted("\n", 0, 1, " \n");
+        shifted("\n", 0, 0, "\n");
+        shifted("a\n  ", 1, 1, "a\n   ");
+        Run x = Run.withText("a\n  ");
+        check.due("all bytes of a last line", x.shift(1, -2), 1);
+        check.due("go with the line", x.count(3), 1);
+        check.due("which is there no more", x.shift(1, 0), UNKNOWN);
+        shifted("'a\nb' c", 1, 2, "'a\n  b' c");
+    }
+
+    @Says(promise = 9, value = "UNKNOWN;")
+    private static void aShiftOfAnUnknownLine() {
+        check.refused("line 0 of none", () -> Run.afterRead(""), x -> x.shift(0, 0), UNKNOWN);
+        Supplier<Run> two = () -> Run.afterRead("a do\n  b\n");
+        check.due("line 1 of two", two.get().shift(1, 1), 1);
+        for (int line : new int[] {-1, 2, 3, Integer.MIN_VALUE, Integer.MAX_VALUE}) {
+            check.refused("line " + line + " of two", two, x -> x.shift(line, 1), UNKNOWN);
+        }
+        check.refused("ahead of OUTSIDE", two, x -> x.shift(2, 41), UNKNOWN);
+        check.refused("ahead of STATE", two, x -> x.shift(2, -1), UNKNOWN);
+        check.due("line 599 of 600", Run.withText("\n".repeat(600)).shift(599, 0), 1);
+        check.due("line 600 of 600", Run.withText("\n".repeat(600)).shift(600, 0), UNKNOWN);
+    }
+
+    @Says(promise = 9, value = "OUTSIDE: by is not -40 .. 40;")
+    private static void aShiftOutside() {
+        Supplier<Run> some = () -> Run.afterRead("a\n" + " ".repeat(50));
+        check.due("by 39", some.get().shift(1, 39), 1);
+        check.due("by 40", some.get().shift(1, 40), 1);
+        check.due("by -39", some.get().shift(1, -39), 1);
+        check.due("by -40", some.get().shift(1, -40), 1);
+        for (int by : new int[] {41, -41, 100, -100, Integer.MIN_VALUE, Integer.MAX_VALUE}) {
+            check.refused("by " + by, some, x -> x.shift(1, by), OUTSIDE);
+        }
+        check.refused("ahead of STATE", some, x -> x.shift(0, -41), OUTSIDE);
+        Run x = some.get();
+        x.shift(1, 40);
+        check.due("all forty came", x.text(), "a\n" + " ".repeat(90));
+        x.shift(1, -40);
+        x.shift(1, -40);
+        check.due("twice forty went", x.text(), "a\n" + " ".repeat(10));
+    }
+
+    @Says(promise = 9, value = "STATE: there are not so many blanks (32) at its beginning;")
+    private static void aShiftOfTooFewBlanks() {
+        Supplier<Run> some = () -> Run.afterRead("a do\n   b   c\n   d");
+        check.due("three of three", some.get().shift(1, -3), 1);
+        check.refused("four of three", some, x -> x.shift(1, -4), STATE);
+        check.refused("forty of three", some, x -> x.shift(1, -40), STATE);
+        check.refused("one of none", some, x -> x.shift(0, -1), STATE);
+        check.refused("four of three on the last line", some, x -> x.shift(2, -4), STATE);
+        check.due("none of none", some.get().shift(0, 0), 1);
+        Run tabbed = Run.withText(" \t \n\t x\n  \n   ");
+        check.due("a byte 9 is no such blank", tabbed.shift(0, -2), STATE);
+        check.due("not at the beginning either", tabbed.shift(1, -1), STATE);
+        check.due("nor is the end of a line", tabbed.shift(2, -3), STATE);
+        check.due("nor is the end of the text", tabbed.shift(3, -4), STATE);
+        check.due("all that there are", tabbed.shift(3, -3), 1);
+    }
+
+    @Says(promise = 9, value = "FULL: more than 600 bytes.")
+    private static void aShiftBeyondSixHundredBytes() {
+        Supplier<Run> some = () -> Run.afterRead("a do\n  b" + " ".repeat(589));
+        check.due("597", some.get().count(4), 597);
+        check.due("to 599", some.get().shift(1, 2), 1);
+        check.due("to 600", some.get().shift(1, 3), 1);
+        check.refused("to 601", some, x -> x.shift(1, 4), FULL);
+        check.refused("to 637", some, x -> x.shift(0, 40), FULL);
+        Run x = some.get();
+        x.shift(1, 3);
         check.due("600 bytes", x.count(4), 600);
-        check.due("601 bytes", x.shift(0, 1), FULL);
-        check.due("not at all", x.shift(0, 0), 1);
-        check.due("six less", x.shift(0, -6), 1);
-        check.due("seven more", x.shift(0, 7), FULL);
-        check.due("594 bytes", x.count(4), 594);
-        check.due("the last one stays", x.byteAt(593), 'a');
+        check.due("one more", x.shift(0, 1), FULL);
+        check.due("none more", x.shift(0, 0), 1);
+        check.due("five less", x.shift(1, -5), 1);
+        check.due("six more", x.shift(0, 6), FULL);
+        check.due("five more", x.shift(0, 5), 1);
+        check.due("from the first on", x.textFrom(0, 11), "     a do\nb");
+        check.due("to the last", x.byteAt(599), 32);
+        check.due("a long text that moves whole", Check.longText(() -> {
+            Run y = Run.withText("a\n" + "bcdefg\n".repeat(80));
+            y.shift(1, 38);
+            return y;
+        }), "a\n" + " ".repeat(38) + "bcdefg\n".repeat(80));
     }
 
-    private static void keeps() {
-        IndentReader x = Check.afterRead("a b");
-        check.due("how many", x.keep(), 3);
+    @Says(promise = 9, value = "(It is read no more.)")
+    private static void shiftUnreads() {
+        unread("shift", x -> x.shift(0, 1), 1);
+        unread("shift by nothing", x -> x.shift(0, 0), 1);
+    }
+
+    // ---- 10
+
+    @Says(promise = 10, value = "THE TEXT is kept for same() (instead of the one before): how many bytes.")
+    private static void keepAnswersHowManyBytes() {
+        Run x = new Run();
+        check.due("none", x.keep(), 0);
+        x.feedAll("a b");
+        check.due("three", x.keep(), 3);
+        check.due("three again", x.keep(), 3);
+        check.due("600", Run.withText("a".repeat(600)).keep(), 600);
+        Run faulty = Run.withText("a )");
+        check.due("whatever it is", faulty.keep(), 3);
+    }
+
+    @Says(promise = 10, value = "THE TEXT is kept for same() (instead of the one before): how many bytes.")
+    private static void keepIsInsteadOfTheOneBefore() {
+        Run x = Run.afterRead("a b");
+        x.keep();
         check.due("still read", x.count(0), 2);
         check.due("the same", x.same(), 1);
-        x.cut(1);
-        x.read();
-        check.due("another one by now", x.same(), 0);
+        x.readAnew("a");
+        check.due("kept as it was", x.same(), 0);
         check.due("instead of the one before", x.keep(), 1);
         check.due("the same again", x.same(), 1);
+        x.readAnew("a b");
+        check.due("the one before is no more", x.same(), 0);
         x.cut(0);
-        check.due("none", x.keep(), 0);
+        x.keep();
+        x.read();
+        check.due("an empty one", x.same(), 1);
+        x.readAnew("a");
+        check.due("nothing of a longer one is left", x.same(), 0);
     }
 
-    private static void bytes() {
-        IndentReader x = new IndentReader();
-        check.due("of none", x.byteAt(0), INDEX);
-        Check.feed(x, "ab");
-        check.due("first", x.byteAt(0), 'a');
-        check.due("last", x.byteAt(1), 'b');
-        check.due("behind it", x.byteAt(2), INDEX);
-        check.due("below 0", x.byteAt(-1), INDEX);
-        check.due("greatest", x.byteAt(Integer.MAX_VALUE), INDEX);
-        x.cut(1);
-        check.due("cut away", x.byteAt(1), INDEX);
-    }
+    // ---- 11
 
-    private static void lines() {
-        String[] texts = {"", "a", "a\n", "\n", "\n\n", "a\nb", "a\nb\n", "a\n ", "'\n'"};
-        int[] lines = {0, 1, 1, 1, 2, 2, 2, 2, 2};
-        for (int i = 0; i < texts.length; i++) {
-            IndentReader x = Check.withText(texts[i]);
-            check.due("lines of [" + texts[i] + "]", x.count(3), lines[i]);
+    @Says(promise = 11, value = "Byte i of THE TEXT.")
+    private static void bytesOfTheText() {
+        Run x = Run.withText("a\n b\u00c8\u0001");
+        int[] bytes = {'a', 10, 32, 'b', 0xc8, 1};
+        for (int i = 0; i < bytes.length; i++) {
+            check.due("byte " + i, x.byteAt(i), bytes[i]);
+        }
+        for (int b = 1; b < 256; b++) {
+            Run y = new Run();
+            y.feed(b);
+            check.due("byte " + b, y.byteAt(0), b);
         }
     }
 
-    private static void actsOfTheTextUnread() {
-        for (int act = 0; act < 5; act++) {
-            IndentReader x = Check.afterRead("a b");
-            switch (act) {
-                case 0: x.feed(Check.word("c")); break;
-                case 1: x.feed(0); break;
-                case 2: x.cut(3); break;
-                case 3: x.shift(0, 0); break;
-                default: x.shift(0, 1); break;
-            }
-            check.due("read no more by act " + act, x.count(0), STATE);
+    @Says(promise = 11, value = "INDEX.")
+    private static void noByteAtThatPlace() {
+        check.due("0 of none", new Run().byteAt(0), INDEX);
+        Supplier<Run> two = () -> Run.afterRead("ab");
+        check.due("1 of two", two.get().byteAt(1), 'b');
+        for (int i : new int[] {-1, 2, 3, 599, 600, 601, Integer.MIN_VALUE, Integer.MAX_VALUE}) {
+            check.refused("byte " + i + " of two", two, x -> x.byteAt(i), INDEX);
         }
-    }
-
-    private static void refusedActsChangeNothing() {
-        IndentReader x = Check.afterRead("a b" + " ".repeat(590));
-        x.feed(Check.word("abcdefgh"));
-        x.cut(-1);
-        x.cut(594);
-        x.shift(1, 1);
-        x.shift(0, 41);
-        x.shift(0, -1);
-        x.shift(0, 8);
-        check.due("still read", x.count(0), 2);
-        check.due("as many bytes", x.count(4), 593);
+        Run full = Run.withText("a".repeat(599) + "b");
+        check.due("599 of 600", full.byteAt(599), 'b');
+        check.due("600 of 600", full.byteAt(600), INDEX);
+        full.cut(1);
+        check.due("one that was cut", full.byteAt(1), INDEX);
     }
 }
