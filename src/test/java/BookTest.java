@@ -206,19 +206,19 @@ public final class BookTest {
         }
         Supplier<Run> some = () -> Run.afterRead("a b");
         check.refused("a brace", some, x -> x.pair('{', '}'), OUTSIDE);
-        check.refused("second a letter", some, x -> x.pair('<', 'a'), OUTSIDE);
-        check.refused("first a letter", some, x -> x.pair('a', '<'), OUTSIDE);
+        check.refused("second a letter", some, x -> x.pair('^', 'a'), OUTSIDE);
+        check.refused("first a letter", some, x -> x.pair('a', '_'), OUTSIDE);
         check.refused("both one letter", some, x -> x.pair('a', 'a'), OUTSIDE);
         check.refused("first told, second a letter", some, x -> x.pair('(', 'a'), OUTSIDE);
-        check.refused("above all bytes", some, x -> x.pair('<' + 65536, '>'), OUTSIDE);
-        check.refused("the least number", some, x -> x.pair('<', Integer.MIN_VALUE), OUTSIDE);
+        check.refused("above all bytes", some, x -> x.pair('^' + 65536, '_'), OUTSIDE);
+        check.refused("the least number", some, x -> x.pair('^', Integer.MIN_VALUE), OUTSIDE);
     }
 
     @Says(promise = 3, value = "STATE: one is told already,")
     private static void aPairOfOneThatIsToldAlready() {
         Supplier<Run> some = () -> Run.afterRead("a b");
         for (char told : new char[] {'(', ')', '[', ']', ':', '=', '-'}) {
-            check.refused("first " + told, some, x -> x.pair(told, '^'), STATE);
+            check.refused("first " + told, some, x -> x.pair(told, '_'), STATE);
             check.refused("second " + told, some, x -> x.pair('^', told), STATE);
         }
         check.refused("turned round", some, x -> x.pair(')', '('), STATE);

@@ -84,7 +84,10 @@ final class Check {
         due(what + " changes nothing:", probe(touched), probe(made.get()));
     }
 
-    /** Answers to some 200 calls: of all that can be asked first, then of acts that show what cannot be asked. */
+    /**
+     * Answers to some 200 calls: of all that can be asked first, then of acts that show what cannot be asked.
+     * What a refused act of the book would have told shows, if it was one of the words and marks that are told here.
+     */
     static String probe(Run x) {
         List<Integer> answers = new ArrayList<>();
         ask(x, answers);

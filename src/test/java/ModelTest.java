@@ -2,7 +2,7 @@ import java.util.Random;
 
 /** All promises: long runs of calls, by chance but always the same ones, held against the model. */
 public final class ModelTest {
-    private static final int RUNS = 1000;
+    private static final int RUNS = 1500;
     /** As many calls as one act makes at most, but for its loops, which end ahead of that. */
     private static final int CALLS_OF_AN_ACT = 60;
     private static final String[] TOKENS = {"a", "b", "if", "do", ":", "of", "let", "hang", "=", "in", "(", ")", "[", "]",

@@ -73,6 +73,23 @@ public final class ReadTest {
         check.due("no fault", x.fault(0), 0);
     }
 
+    @Says(promise = 12, value = "THE TEXT is read: how many TOKENS.")
+    private static void theLastCallIsAnsweredAsTheFirst() {
+        Run x = Run.withBook();
+        while (x.callsLeft() > 8) {
+            x.readAnew("a do\n b");
+            x.cut(0);
+            x.feed(Run.word("c {"));
+            x.read();
+        }
+        x.readAnew("a (b)");
+        while (x.callsLeft() > 1) {
+            x.feed(0);
+        }
+        check.due("call 512", x.read(), 4);
+        check.due("there are no more", x.callsLeft(), 0);
+    }
+
     // ---- 13
 
     private static void faultAt(String text, int tab, int kind, int place, int line, int column) {
@@ -123,6 +140,9 @@ public final class ReadTest {
         faultAt("a\nb\n  {", 0, 1, 6, 2, 2);
         faultAt("a\nb \t", 0, 2, 4, 1, 2);
         faultAt("a\n\t\tb", 0, 2, 2, 1, 0);
+        faultAt("\n {", 0, 1, 2, 1, 1);
+        faultAt("\n\n{", 0, 1, 2, 2, 0);
+        faultAt("\n\ta", 4, 4, 2, 1, 4);
         faultAt("a\t{", 4, 1, 2, 0, 4);
         faultAt("a do\n\n b\n\tc", 3, 4, 10, 3, 3);
         faultAt("a\nb )", 0, 5, 4, 1, 2);

@@ -139,12 +139,12 @@ public final class TermsTest {
     private static void refusedActsOfTheBookChangeNothing() {
         Supplier<Run> some = () -> workedOn("a do\n  b");
         check.refused("opener OUTSIDE", some, x -> x.opener(Run.word("z1"), 1), OUTSIDE);
-        check.refused("opener of kind 4", some, x -> x.opener(Run.word("z"), 4), OUTSIDE);
+        check.refused("opener of kind 4", some, x -> x.opener(Run.word("zz"), 4), OUTSIDE);
         check.refused("opener STATE", some, x -> x.opener(Run.word("do"), 5), STATE);
-        check.refused("pair OUTSIDE by its second", some, x -> x.pair('<', 'a'), OUTSIDE);
-        check.refused("pair OUTSIDE by its first", some, x -> x.pair('a', '<'), OUTSIDE);
+        check.refused("pair OUTSIDE by its second", some, x -> x.pair('^', 'a'), OUTSIDE);
+        check.refused("pair OUTSIDE by its first", some, x -> x.pair('a', '_'), OUTSIDE);
         check.refused("pair STATE by its second", some, x -> x.pair('^', '-'), STATE);
-        check.refused("pair STATE by its first", some, x -> x.pair('-', '^'), STATE);
+        check.refused("pair STATE by its first", some, x -> x.pair('-', '_'), STATE);
         check.refused("pair of one", some, x -> x.pair('^', '^'), STATE);
         check.refused("closer OUTSIDE", some, x -> x.closer('^'), OUTSIDE);
         check.refused("closer STATE", some, x -> x.closer(Run.word("do")), STATE);

@@ -140,6 +140,7 @@ public final class TextTest {
         shifted("a\n  b\nc", 0, 2, "  a\n  b\nc");
         shifted("a\n  b\nc", 2, 2, "a\n  b\n  c");
         shifted("  a b", 0, -1, " a b");
+        shifted("\tx", 0, 1, " \tx");
         shifted(" \tx", 0, 1, "  \tx");
         shifted(" \tx", 0, -1, "\tx");
         Run x = Run.withText("a do\n b");

@@ -523,6 +523,9 @@ public final class TreeTest {
         Run quote = Run.afterRead("a 'q\n\n  r'");
         check.due("line of a quote's end", quote.reach(true, 0, 2), 2);
         check.due("column of a quote's end", quote.reach(true, 0, 3), 3);
+        Run second = Run.afterRead("\nabc");
+        check.due("line behind one without bytes", second.reach(true, 0, 2), 1);
+        check.due("column behind one without bytes", second.reach(true, 0, 3), 2);
         Run word = Run.afterRead("a abcdefgh # n\n\n");
         check.due("line of a word's end", word.reach(false, 0, 2), 0);
         check.due("column of a word's last byte", word.reach(false, 0, 3), 9);

@@ -300,6 +300,28 @@ public final class WriteTest {
         check.due("3999", full.written(3999), 10);
     }
 
+    @Says(promise = 24, value = "Byte i of what was written last by plain(), write() (0 .. 3999);")
+    private static void onePageIsInsteadOfTheOneBefore() {
+        String[] texts = {"a of b = c", "d", "", "e do\n f", "of a -\nof b", "=".repeat(100), "g", "let h in i"};
+        String[] plain = {"a of { b = { c } }", "d", "", "e do { f }", "of { a - of { } b }", null, "g", "let { h } in i"};
+        String[] anew = {"a of\n  b =\n    c\n", "d\n", "", "e do\n  f\n", null, null, "g\n", "let\n  h\nin i\n"};
+        for (int first = 0; first < 3; first++) {
+            Run x = Run.withBook();
+            String shown = "";
+            for (int i = 0; i < texts.length; i++) {
+                x.readAnew(texts[i]);
+                boolean plainly = first == 1 || first == 2 && i % 2 == 0;
+                String due = plainly ? plain[i] : anew[i];
+                int got = plainly ? i == 5 ? 0 : x.plain() : x.write(1);
+                if (due != null) {
+                    check.due("bytes of page " + i, got, due.length());
+                    shown = due;
+                }
+                check.due("page " + i, x.page(), shown);
+            }
+        }
+    }
+
     @Says(promise = 24, value = "NONE.")
     private static void noByteThere() {
         check.due("at first", new Run().written(0), NONE);
