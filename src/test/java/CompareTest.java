@@ -119,6 +119,29 @@ public final class CompareTest {
         check.due("kept anew", x.same(), 1);
     }
 
+    @Says(promise = 25, value = "as many TOKENS, BLOCKS, ITEMS,")
+    private static void nothingOfALongerReadingBeforeCounts() {
+        String[] longer = {"do\n a\n b\nc", "a\nb\nc\nd", "of a = b (c)\nd", "(a) (b) (c)"};
+        for (String before : longer) {
+            for (String text : new String[] {"", "x", "x\ny", "x of y", "x\n(y)"}) {
+                Run x = Run.afterRead(before);
+                x.readAnew(text);
+                x.keep();
+                check.due("[" + text + "] read behind [" + before + "]: same", x.same(), 1);
+                check.due("[" + text + "] read behind [" + before + "]: parts", x.parts(), NONE);
+                Run y = both(before, before);
+                y.same();
+                y.readAnew(text);
+                y.keep();
+                check.due("[" + text + "] kept behind [" + before + "]: same", y.same(), 1);
+                check.due("[" + text + "] kept behind [" + before + "]: parts", y.parts(), NONE);
+                y.readAnew("x");
+                y.readAnew(before);
+                check.due("[" + before + "] again: same", y.same(), 0);
+            }
+        }
+    }
+
     // ---- 26
 
     @Says(promise = 26, value = {"The first TOKEN that one of both has not,",

@@ -523,6 +523,11 @@ public final class TreeTest {
         Run quote = Run.afterRead("a 'q\n\n  r'");
         check.due("line of a quote's end", quote.reach(true, 0, 2), 2);
         check.due("column of a quote's end", quote.reach(true, 0, 3), 3);
+        Run alone = Run.afterRead("\n\nab");
+        for (boolean block : new boolean[] {true, false}) {
+            check.due("line of the last byte of token 0", alone.reach(block, 0, 2), 2);
+            check.due("column of the last byte of token 0", alone.reach(block, 0, 3), 1);
+        }
         Run second = Run.afterRead("\nabc");
         check.due("line behind one without bytes", second.reach(true, 0, 2), 1);
         check.due("column behind one without bytes", second.reach(true, 0, 3), 2);
