@@ -1,109 +1,107 @@
+import com.sun.source.tree.ClassTree;
+import com.sun.source.tree.MethodTree;
+import com.sun.source.tree.VariableTree;
+import com.sun.source.util.TreePath;
 import java.io.IOException;
-import java.lang.reflect.Constructor;
-import java.lang.reflect.Field;
-import java.lang.reflect.Method;
-import java.lang.reflect.Modifier;
 import java.nio.charset.StandardCharsets;
 import java.nio.file.Files;
 import java.nio.file.Path;
-import java.util.Arrays;
+import java.util.ArrayList;
+import java.util.HashSet;
+import java.util.List;
 import java.util.Set;
 import java.util.TreeSet;
 import java.util.regex.Matcher;
 import java.util.regex.Pattern;
+import javax.lang.model.element.Modifier;
 
-/** The public face, and those rules of LANGUAGE.md that can be seen from outside or word by word. */
+/** Holds the class to the face that the document writes out: names, parameters and constants, and no other member. */
 public final class FaceTest {
-    private static final String[] METHODS = {"opener(long,int)", "pair(int,int)", "closer(long)", "goer(int)", "tab(int)",
-        "feed(long)", "cut(int)", "shift(int,int)", "keep()", "byteAt(int)", "read()", "fault(int)", "count(int)",
-        "token(int,int)", "block(int,int)", "item(int,int)", "part(int,int)", "itemAs(int,int,int)",
-        "reach(boolean,int,int)", "around(int,int)", "plain()", "write(int)", "written(int)", "same()", "parts()", "mend()",
-        "mended(int)", "marks(int)", "deepen()", "markAt(int)"};
-    private static final String[] FIELDS = {"UNKNOWN", "OUTSIDE", "STATE", "FULL", "NONE"};
-    private static final String[] NOT_HERE = {"\\bthrow\\b", "\\btry\\b", "\\bcatch\\b", "\\bsynchronized\\b", "\\bassert\\b",
-        "::", "\\bhashCode\\b", "Exact\\b", "\\bSystem\\.(?!arraycopy)", "\\bThread\\b", "\\bprotected\\b", "\\bpackage\\b",
-        "\\bstatic\\s*\\{", "(?m)^(?!.*\\b(case|default)\\b).*->"};
-    /** The rules say 'some sixty' and the like: a little above is fine. */
-    private static final int MOST_LINES = 66, MOST_PARAMETERS = 7, MOST_FIELDS = 22, MOST_CLASSES = 13;
+    private static final Path DOCUMENT = Path.of("../shared/DOC.md");
+    private static final int METHODS = 30, CONSTANTS = 5;
     private static final Check check = new Check();
 
     public static void main(String[] args) throws IOException {
-        face();
-        classesInside();
-        words();
+        Set<String> wanted = faceOfDocument();
+        List<String> found = new ArrayList<>();
+        Set<String> open = new HashSet<>();
+        Source source = new Source();
+        for (TreePath path : source.paths) {
+            if (isMemberOfOuter(source, path) && !isPrivate(source, path)) {
+                found.add(told(source, path));
+                open.add(source.elementOf(path).getSimpleName().toString());
+            }
+        }
+        check.due("the document's face", wanted.size(), 2 + METHODS + CONSTANTS);
+        check.due("the face", new TreeSet<>(found).toString(), wanted.toString());
+        check.due("told once each", found.size(), wanted.size());
+        namesAreNotSharedByHiddenMethods(source, open);
+        constantsAsTold();
         check.end();
     }
 
-    private static void face() {
-        Class<?> c = IndentReader.class;
-        check.due("public and final", c.getModifiers(), Modifier.PUBLIC | Modifier.FINAL);
-        Set<String> seen = new TreeSet<>();
-        for (Method method : c.getDeclaredMethods()) {
-            if (!Modifier.isPrivate(method.getModifiers())) {
-                String types = String.join(",", Arrays.stream(method.getParameterTypes()).map(Class::getName).toList());
-                seen.add(method.getName() + "(" + types + ")");
-                check.due(method.getName() + " is public alone", method.getModifiers(), Modifier.PUBLIC);
-                check.due(method.getName() + " answers int", method.getReturnType().getName(), "int");
+    /** The class, its constructor, its methods and its constants, each as "public static final int NONE = -9". */
+    private static Set<String> faceOfDocument() throws IOException {
+        String document = Files.readString(DOCUMENT, StandardCharsets.UTF_8);
+        Matcher block = Pattern.compile("## The public face\\s+```java\n(.*?)```", Pattern.DOTALL).matcher(document);
+        check.due("the document has a face", block.find() ? 1 : 0, 1);
+        Set<String> face = new TreeSet<>();
+        for (String line : block.group(1).split("\n")) {
+            String words = line.trim().replaceAll("( \\{|;)$", "");
+            if (words.startsWith("public static final int ")) {
+                for (String constant : words.substring("public static final int ".length()).split(", ")) {
+                    face.add("public static final int " + constant);
+                }
+            } else if (words.startsWith("public ")) {
+                face.add(words);
             }
         }
-        check.due("methods", seen.toString(), new TreeSet<>(Arrays.asList(METHODS)).toString());
-        seen.clear();
-        for (Field field : c.getDeclaredFields()) {
-            if (!Modifier.isPrivate(field.getModifiers())) {
-                seen.add(field.getName());
-            }
-        }
-        check.due("constants", seen.toString(), new TreeSet<>(Arrays.asList(FIELDS)).toString());
-        Constructor<?>[] made = c.getDeclaredConstructors();
-        check.due("one constructor", made.length, 1);
-        check.due("without a parameter", made[0].getParameterCount(), 0);
-        check.due("public", made[0].getModifiers(), Modifier.PUBLIC);
+        return face;
     }
 
-    private static void classesInside() {
-        Class<?>[] inside = IndentReader.class.getDeclaredClasses();
-        check.due("classes inside", inside.length < MOST_CLASSES ? 1 : 0, 1);
-        Set<String> open = new TreeSet<>();
-        for (Method method : IndentReader.class.getDeclaredMethods()) {
-            if (Modifier.isPublic(method.getModifiers())) {
-                open.add(method.getName());
-            }
+    private static boolean isMemberOfOuter(Source source, TreePath path) {
+        if (path.getLeaf() instanceof ClassTree) {
+            return true;
         }
-        for (Method method : IndentReader.class.getDeclaredMethods()) {
-            boolean hidden = Modifier.isPrivate(method.getModifiers());
-            check.due("name of " + method, hidden && open.contains(method.getName()) ? 1 : 0, 0);
+        boolean member = path.getLeaf() instanceof MethodTree || path.getLeaf() instanceof VariableTree;
+        return member && path.getParentPath().getLeaf() == source.classes().get(0).getLeaf();
+    }
+
+    private static boolean isPrivate(Source source, TreePath path) {
+        return source.elementOf(path).getModifiers().contains(Modifier.PRIVATE);
+    }
+
+    private static String told(Source source, TreePath path) {
+        StringBuilder words = new StringBuilder();
+        for (Modifier modifier : source.elementOf(path).getModifiers()) {
+            words.append(modifier).append(' ');
         }
-        for (Class<?> c : inside) {
-            check.due(c.getName() + " is static", Modifier.isStatic(c.getModifiers()) ? 1 : 0, 1);
-            int fields = 0;
-            for (Field field : c.getDeclaredFields()) {
-                fields += Modifier.isStatic(field.getModifiers()) ? 0 : 1;
-            }
-            check.due(c.getName() + " has few fields", fields <= MOST_FIELDS ? 1 : 0, 1);
-            for (Method method : c.getDeclaredMethods()) {
-                boolean hidden = Modifier.isPrivate(method.getModifiers());
-                check.due("name of " + method, hidden && open.contains(method.getName()) ? 1 : 0, 0);
-                check.due("parameters of " + method, method.getParameterCount() <= MOST_PARAMETERS ? 1 : 0, 1);
-            }
+        if (path.getLeaf() instanceof ClassTree inside) {
+            words.append("class ").append(inside.getSimpleName());
+        } else if (path.getLeaf() instanceof VariableTree constant) {
+            words.append(constant.getType()).append(' ').append(constant.getName()).append(" = ").append(constant.getInitializer());
+        } else if (path.getLeaf() instanceof MethodTree method) {
+            boolean made = source.isConstructor(path);
+            words.append(made ? "IndentReader" : method.getReturnType() + " " + method.getName());
+            words.append(method.getParameters().toString().replaceAll(",(?! )", ", ").replaceAll("^", "(")).append(')');
+        }
+        return words.toString();
+    }
+
+    private static void namesAreNotSharedByHiddenMethods(Source source, Set<String> open) {
+        for (TreePath path : source.methods()) {
+            MethodTree method = (MethodTree) path.getLeaf();
+            boolean shown = isMemberOfOuter(source, path) && !isPrivate(source, path);
+            boolean shared = !shown && !source.isConstructor(path) && open.contains(method.getName().toString());
+            check.due("name of " + method.getName() + " at line " + source.lineOf(method), shared ? 1 : 0, 0);
         }
     }
 
-    private static void words() throws IOException {
-        Path file = Path.of("src/main/java/IndentReader.java");
-        String source = Files.readString(file, StandardCharsets.ISO_8859_1);
-        String code = source.replaceAll("(?s)/\\*.*?\\*/", "").replaceAll("//[^\n]*", "");
-        for (String word : NOT_HERE) {
-            Matcher m = Pattern.compile(word).matcher(code);
-            check.due("found " + word, m.find() ? 1 : 0, 0);
-        }
-        Matcher imports = Pattern.compile("(?m)^import (.*);$").matcher(code);
-        while (imports.find()) {
-            boolean listed = imports.group(1).matches("java\\.util\\.(Arrays|ArrayList|List|Iterator)");
-            check.due("import " + imports.group(1), listed ? 1 : 0, 1);
-        }
-        Matcher method = Pattern.compile("(?m)^( {4}| {8})[a-z][^;=]*\\) \\{\n((?!\\1\\}).*\n)*\\1\\}\n").matcher(code);
-        while (method.find()) {
-            check.due("length of\n" + method.group(), method.group().lines().count() <= MOST_LINES ? 1 : 0, 1);
-        }
+    private static void constantsAsTold() {
+        check.due("UNKNOWN", IndentReader.UNKNOWN, -1);
+        check.due("OUTSIDE", IndentReader.OUTSIDE, -2);
+        check.due("STATE", IndentReader.STATE, -3);
+        check.due("FULL", IndentReader.FULL, -4);
+        check.due("NONE", IndentReader.NONE, -9);
     }
 }
